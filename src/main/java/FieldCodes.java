@@ -193,7 +193,7 @@ public final class FieldCodes {
         static final int ELEMENTS = 256;
         // The powers of 2 come round after this many.
         static final int ORDER = 255;
-        static final int MODULUS = 0b1_0001_1101;
+        static final int MODULUS = 0x11D;
 
         // Twice round, so that a sum or a difference of two logarithms needs no remainder.
         private final int[] powers;

@@ -11,6 +11,7 @@ public final class CheckTest {
         codewordsAgain();
         tooShort();
         oneWrongByte();
+        oneWrongValue();
         wrongCounts();
         EXPECT.end();
     }
@@ -112,6 +113,26 @@ public final class CheckTest {
                 x.spoil(place, v);
             }
             EXPECT.due("isCode(" + e + ") when mended", () -> x.isCode(e) ? 1 : 0, 1);
+        }
+    }
+
+    /** Words whose values are 0 at all the powers of 2 that count but one. */
+    private static void oneWrongValue() {
+        for (int e : new int[] {2, 3, 16, 67, 68}) {
+            for (int exponent = 0; exponent < e; exponent++) {
+                int[] word = {1};
+                for (int k = 0; k < e; k++) {
+                    if (k != exponent) {
+                        word = Reference.wordProduct(word, new int[] {1, Reference.power(k)});
+                    }
+                }
+                word = Reference.wordProduct(word, new int[] {1, 0, 0});
+                FieldCodes x = new FieldCodes();
+                Words.put(x, word);
+                EXPECT.holds("a value that is not 0", x.value(x.power(exponent)) != 0);
+                EXPECT.due("isCode(" + e + ") but for the value at 2^" + exponent,
+                    () -> x.isCode(e) ? 1 : 0, 0);
+            }
         }
     }
 

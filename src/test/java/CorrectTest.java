@@ -13,6 +13,7 @@ public final class CorrectTest {
         anyWordOnFewChecks();
         limitZero();
         changedTellsTheLatest();
+        againAndAgain();
         wrongArguments();
         tooShort();
         EXPECT.end();
@@ -147,11 +148,7 @@ public final class CorrectTest {
         int[] rest = longer.clone();
         int[] generator = {1};
         for (int k = 0; k < e; k++) {
-            int[] next = Arrays.copyOf(generator, generator.length + 1);
-            for (int j = 0; j < generator.length; j++) {
-                next[j + 1] ^= Reference.product(generator[j], Reference.power(k));
-            }
-            generator = next;
+            generator = Reference.wordProduct(generator, new int[] {1, Reference.power(k)});
         }
         for (int i = 0; i + e < rest.length; i++) {
             int lead = rest[i];
@@ -221,6 +218,45 @@ public final class CorrectTest {
         }
         for (int i : new int[] {-1, places.length, 34, 255, Integer.MIN_VALUE, Integer.MAX_VALUE}) {
             EXPECT.due("changed(" + i + "), " + told, () -> x.changed(i), FieldCodes.NONE);
+        }
+    }
+
+    /** One object for many words, as rows that it uses again must not tell of the word before. */
+    private static void againAndAgain() {
+        for (int seed = 0; seed < 60; seed++) {
+            Numbers numbers = new Numbers(seed);
+            int[] code = codeword(numbers, numbers.between(1, 187), 68);
+            FieldCodes x = holding(code);
+            int calls = code.length / 8 + 1 + code.length;
+            while (calls < 400) {
+                int e = numbers.between(2, 68);
+                int[] places = numbers.places(numbers.between(0, Math.min(e, 25)), code.length);
+                calls += places.length * 3 + 1;
+                spoilAndCorrect(numbers, x, e, places);
+            }
+            EXPECT.holds("the word, again and again",
+                Arrays.equals(Words.bytes(x, code.length), code));
+        }
+    }
+
+    /** A codeword with 68 check bytes is one with fewer too, so that e may change. */
+    private static void spoilAndCorrect(Numbers numbers, FieldCodes x, int e, int[] places) {
+        int[] amounts = new int[places.length];
+        for (int k = 0; k < places.length; k++) {
+            amounts[k] = numbers.between(1, 255);
+            x.spoil(places[k], amounts[k]);
+        }
+        int m = Math.min(e / 2, e - places.length);
+        boolean near = places.length <= m;
+        EXPECT.due("correct(" + e + ", " + m + ") again, wrong at " + places.length,
+            () -> x.correct(e, m), near ? places.length : FieldCodes.NONE);
+        for (int k = 0; k < places.length; k++) {
+            int index = k;
+            if (near) {
+                EXPECT.due("changed(" + k + ") again", () -> x.changed(index), places[k]);
+            } else {
+                x.spoil(places[k], amounts[k]);
+            }
         }
     }
 

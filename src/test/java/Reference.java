@@ -45,6 +45,17 @@ final class Reference {
         return sum;
     }
 
+    /** The product of two polynomials, the highest power first, as in a word. */
+    static int[] wordProduct(int[] a, int[] b) {
+        int[] product = new int[a.length + b.length - 1];
+        for (int i = 0; i < a.length; i++) {
+            for (int j = 0; j < b.length; j++) {
+                product[i + j] ^= product(a[i], b[j]);
+            }
+        }
+        return product;
+    }
+
     static boolean isCode(int[] word, int e) {
         if (word.length <= e) {
             return false;
