@@ -35,7 +35,7 @@ public final class CorrectTest {
 
     private static void putRight(Numbers numbers, int[] code, int e, int m, int count) {
         int[] places = numbers.places(count, code.length);
-        FieldCodes x = holding(spoilt(numbers, code, places));
+        FieldCodes x = Words.holding(spoilt(numbers, code, places));
         String told = "correct(" + e + ", " + m + ") of " + code.length + ", wrong at " + count;
         EXPECT.due(told, () -> x.correct(e, m), count);
         EXPECT.holds("the word, " + told, Arrays.equals(Words.bytes(x, code.length), code));
@@ -66,7 +66,7 @@ public final class CorrectTest {
 
     private static void leaveAlone(Numbers numbers, int[] code, int e, int m, int count) {
         int[] word = spoilt(numbers, code, numbers.places(count, code.length));
-        FieldCodes x = holding(word);
+        FieldCodes x = Words.holding(word);
         String told = "correct(" + e + ", " + m + ") of " + code.length + ", wrong at " + count;
         EXPECT.due(told, () -> x.correct(e, m), FieldCodes.NONE);
         EXPECT.holds("the word, " + told, Arrays.equals(Words.bytes(x, word.length), word));
@@ -90,7 +90,7 @@ public final class CorrectTest {
 
     private static void sameAsReference(int[] word, int e, int m) {
         int[] due = Reference.near(word, e, m);
-        FieldCodes x = holding(word);
+        FieldCodes x = Words.holding(word);
         String told = "correct(" + e + ", " + m + ") of " + Arrays.toString(word);
         EXPECT.due(told, () -> x.correct(e, m), due == null ? FieldCodes.NONE : differing(due, word));
         EXPECT.holds("the word, " + told,
@@ -113,7 +113,7 @@ public final class CorrectTest {
             for (int i = 0; i < 255; i++) {
                 int place = i;
                 int v = numbers.between(1, 255);
-                FieldCodes x = holding(code);
+                FieldCodes x = Words.holding(code);
                 x.spoil(place, v);
                 EXPECT.due("correct(" + e + ", 1) at " + i, () -> x.correct(e, 1), 1);
                 EXPECT.due("changed(0)", () -> x.changed(0), i);
@@ -135,7 +135,7 @@ public final class CorrectTest {
                     longer[59 - k] = numbers.between(1, 255);
                 }
                 int[] word = withValuesOf(longer, 20, e);
-                FieldCodes x = holding(word);
+                FieldCodes x = Words.holding(word);
                 EXPECT.due("correct(" + e + ", " + count + "), place beyond the word",
                     () -> x.correct(e, limit), FieldCodes.NONE);
                 EXPECT.holds("the word stays", Arrays.equals(Words.bytes(x, 20), word));
@@ -173,7 +173,7 @@ public final class CorrectTest {
 
     private static void limitZero() {
         int[] code = codeword(new Numbers(19), 9, 5);
-        FieldCodes x = holding(code);
+        FieldCodes x = Words.holding(code);
         EXPECT.due("correct(5, 0) of a codeword", () -> x.correct(5, 0), 0);
         x.spoil(2, 1);
         EXPECT.due("correct(5, 0) of a spoilt one", () -> x.correct(5, 0), FieldCodes.NONE);
@@ -186,7 +186,7 @@ public final class CorrectTest {
 
     private static void changedTellsTheLatest() {
         int[] code = codeword(new Numbers(20), 30, 6);
-        FieldCodes x = holding(code);
+        FieldCodes x = Words.holding(code);
         x.spoil(35, 7);
         x.spoil(0, 7);
         x.spoil(20, 7);
@@ -226,7 +226,7 @@ public final class CorrectTest {
         for (int seed = 0; seed < 60; seed++) {
             Numbers numbers = new Numbers(seed);
             int[] code = codeword(numbers, numbers.between(1, 187), 68);
-            FieldCodes x = holding(code);
+            FieldCodes x = Words.holding(code);
             int calls = code.length / 8 + 1 + code.length;
             while (calls < 400) {
                 int e = numbers.between(2, 68);
@@ -264,7 +264,7 @@ public final class CorrectTest {
         String want = Expect.ILLEGAL_ARGUMENT;
         for (int length : new int[] {0, 1, 68, 69, 255}) {
             int[] word = Words.random(new Numbers(length), length);
-            FieldCodes x = holding(word);
+            FieldCodes x = Words.holding(word);
             for (int e : new int[] {1, 0, -1, 69, 70, 255, Integer.MIN_VALUE, Integer.MAX_VALUE}) {
                 EXPECT.due("correct(" + e + ", 0)", () -> x.correct(e, 0), want);
             }
@@ -309,12 +309,6 @@ public final class CorrectTest {
             word[place] ^= numbers.between(1, 255);
         }
         return word;
-    }
-
-    private static FieldCodes holding(int[] word) {
-        FieldCodes x = new FieldCodes();
-        Words.put(x, word);
-        return x;
     }
 
     private static int differing(int[] a, int[] b) {

@@ -12,6 +12,7 @@ final class Expect {
     private static final int MOST_PRINTED = 50;
 
     private int wrong = 0;
+    private String sentence = "";
 
     /** The answer as text; an exception counts by its exact class, not by one above it. */
     static String of(Call call) {
@@ -22,12 +23,17 @@ final class Expect {
         }
     }
 
+    /** What is due from here on is told under these words of the document. */
+    void sentence(String quoted) {
+        sentence = "\"" + quoted + "\": ";
+    }
+
     void due(String told, Call call, String want) {
         String got = of(call);
         if (!got.equals(want)) {
             wrong++;
             if (wrong <= MOST_PRINTED) {
-                System.out.println(told + " answered " + got + ", due is " + want);
+                System.out.println(sentence + told + " answered " + got + ", due is " + want);
             }
         }
     }
@@ -38,6 +44,15 @@ final class Expect {
 
     void holds(String told, boolean condition) {
         due(told, () -> condition ? 1 : 0, 1);
+    }
+
+    /** The word of x has these bytes and no more. */
+    void word(FieldCodes x, int... due) {
+        for (int i = 0; i < due.length; i++) {
+            int place = i;
+            due("at(" + i + ") of " + due.length, () -> x.at(place), due[i]);
+        }
+        due("at behind " + due.length, () -> x.at(due.length), FieldCodes.NONE);
     }
 
     /** Ends the test, with exit code 1 if an answer was wrong. */

@@ -8,6 +8,12 @@ final class Words {
         return word;
     }
 
+    static FieldCodes holding(int... word) {
+        FieldCodes x = new FieldCodes();
+        put(x, word);
+        return x;
+    }
+
     static void put(FieldCodes x, int[] word) {
         for (int from = 0; from < word.length; from += 8) {
             int n = Math.min(8, word.length - from);
