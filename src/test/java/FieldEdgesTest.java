@@ -113,10 +113,11 @@ public final class FieldEdgesTest {
         EXPECT.due("quotient(1, 142), 2 to the -254", () -> x.quotient(1, 142), 2);
         EXPECT.due("quotient(142, 1), 2 to the 254", () -> x.quotient(142, 1), 142);
         EXPECT.due("quotient(142, 142)", () -> x.quotient(142, 142), 1);
+        FieldCodes y = new FieldCodes();
         for (int b = 1; b < 256; b++) {
             int divisor = b;
-            EXPECT.due("quotient(0, " + b + ")", () -> x.quotient(0, divisor), 0);
-            EXPECT.due("quotient(" + b + ", itself)", () -> x.quotient(divisor, divisor), 1);
+            EXPECT.due("quotient(0, " + b + ")", () -> y.quotient(0, divisor), 0);
+            EXPECT.due("quotient(" + b + ", itself)", () -> y.quotient(divisor, divisor), 1);
         }
     }
 
