@@ -1,3 +1,5 @@
+import java.util.Arrays;
+
 /** What is due, worked out from the document's terms as slowly and plainly as they are told. */
 final class Reference {
     private static final int[] POWERS = powers();
@@ -104,23 +106,7 @@ final class Reference {
             rows[k][count] = value(word, power(k));
         }
         for (int j = 0; j < count; j++) {
-            int pivot = j;
-            while (rows[pivot][j] == 0) {
-                pivot++;
-            }
-            int[] row = rows[pivot];
-            rows[pivot] = rows[j];
-            rows[j] = row;
-            int inverse = quotient(1, row[j]);
-            for (int c = 0; c <= count; c++) {
-                row[c] = product(row[c], inverse);
-            }
-            for (int k = 0; k < e; k++) {
-                int factor = k == j ? 0 : rows[k][j];
-                for (int c = 0; c <= count && factor != 0; c++) {
-                    rows[k][c] ^= product(factor, row[c]);
-                }
-            }
+            eliminate(rows, j);
         }
         for (int k = count; k < e; k++) {
             if (rows[k][count] != 0) {
@@ -132,6 +118,90 @@ final class Reference {
             solved[places[j]] ^= rows[j][count];
         }
         return solved;
+    }
+
+    /**
+     * The same by elimination alone, for words of every length: any polynomial of degree m at most,
+     * but 0, that is a recurrence of the values has all wrong places among its roots, and has m
+     * roots at most.
+     */
+    static int[] nearByRecurrence(int[] word, int e, int m) {
+        int[] recurrence = recurrence(word, e, m);
+        if (recurrence == null) {
+            return null;
+        }
+        int[] highestFirst = reversed(recurrence);
+        int[] places = new int[m];
+        int count = 0;
+        for (int i = 0; i < word.length; i++) {
+            if (value(highestFirst, power(-(word.length - 1 - i))) == 0) {
+                places[count++] = i;
+            }
+        }
+        return solvedAt(word, e, Arrays.copyOf(places, count));
+    }
+
+    /** Coefficients c, not all 0, with the sum of c(j) s(k - j) 0 for k = m .. e - 1; or null. */
+    private static int[] recurrence(int[] word, int e, int m) {
+        int[][] rows = new int[e - m][m + 1];
+        for (int power = 0; power < e; power++) {
+            int value = value(word, power(power));
+            for (int j = 0; j <= m; j++) {
+                int k = power + j;
+                if (k >= m && k < e) {
+                    rows[k - m][j] = value;
+                }
+            }
+        }
+        for (int j = 0; j <= m; j++) {
+            if (!eliminate(rows, j)) {
+                return solutionWith(rows, j, m);
+            }
+        }
+        return null;
+    }
+
+    /** The columns before the free one have a pivot each, and sum up to it. */
+    private static int[] solutionWith(int[][] rows, int free, int m) {
+        int[] solution = new int[m + 1];
+        solution[free] = 1;
+        for (int j = 0; j < free; j++) {
+            solution[j] = rows[j][free];
+        }
+        return solution;
+    }
+
+    /** Row j gets a 1 in column j, and all others a 0; false if no row from j on has more than 0. */
+    private static boolean eliminate(int[][] rows, int j) {
+        int pivot = j;
+        while (pivot < rows.length && rows[pivot][j] == 0) {
+            pivot++;
+        }
+        if (pivot >= rows.length) {
+            return false;
+        }
+        int[] row = rows[pivot];
+        rows[pivot] = rows[j];
+        rows[j] = row;
+        int inverse = quotient(1, row[j]);
+        for (int c = 0; c < row.length; c++) {
+            row[c] = product(row[c], inverse);
+        }
+        for (int k = 0; k < rows.length; k++) {
+            int factor = k == j ? 0 : rows[k][j];
+            for (int c = 0; c < row.length && factor != 0; c++) {
+                rows[k][c] ^= product(factor, row[c]);
+            }
+        }
+        return true;
+    }
+
+    private static int[] reversed(int[] row) {
+        int[] reversed = new int[row.length];
+        for (int j = 0; j < row.length; j++) {
+            reversed[j] = row[row.length - 1 - j];
+        }
+        return reversed;
     }
 
     /** The rest of a dividend by a divisor of this degree, both polynomials over two bits. */
