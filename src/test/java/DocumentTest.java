@@ -16,6 +16,7 @@ public final class DocumentTest {
         quotients();
         coefficients();
         codewords();
+        codewordsAreLonger();
         differingWords();
         shortWords();
         refusedCalls();
@@ -33,6 +34,7 @@ public final class DocumentTest {
         isCode();
         correct();
         changed();
+        changedByTheLatest();
         word15();
         read15();
         word18();
@@ -151,6 +153,17 @@ public final class DocumentTest {
                 EXPECT.due("value at 2^" + k + ", check(" + e + ")",
                     () -> x.value(x.power(exponent)), 0);
             }
+        }
+    }
+
+    private static void codewordsAreLonger() {
+        EXPECT.sentence("a word is a CODEWORD if it is longer than e");
+        for (int e = 2; e <= 68; e++) {
+            int count = e;
+            FieldCodes x = Words.holding(new int[e]);
+            EXPECT.due("isCode(" + e + ") of as many", () -> x.isCode(count) ? 1 : 0, 0);
+            x.put(1, 0L);
+            EXPECT.due("isCode(" + e + ") of one more", () -> x.isCode(count) ? 1 : 0, 1);
         }
     }
 
@@ -294,6 +307,8 @@ public final class DocumentTest {
         }
         EXPECT.due("put(8, 1) on 248", () -> x.put(8, 1L), NONE);
         EXPECT.due("at(248)", () -> x.at(248), NONE);
+        EXPECT.due("put(7, 1) on 248", () -> x.put(7, 1L), 255);
+        EXPECT.due("put(1, 1) on 255", () -> x.put(1, 1L), NONE);
         EXPECT.sentence("IllegalArgumentException: n is not 1 .. 8.");
         EXPECT.due("put(0, 1)", () -> x.put(0, 1L), Expect.ILLEGAL_ARGUMENT);
         EXPECT.due("put(9, 1)", () -> x.put(9, 1L), Expect.ILLEGAL_ARGUMENT);
@@ -395,6 +410,9 @@ public final class DocumentTest {
                 EXPECT.word(x, code);
             }
         }
+        FieldCodes far = Words.holding(0, 1, 1);
+        EXPECT.due("correct(2, 1) of 0 1 1", () -> far.correct(2, 1), NONE);
+        EXPECT.word(far, 0, 1, 1);
         EXPECT.sentence("e is not 2 .. 68, or m is below 0 or 2 m above e. [..] not longer than e.");
         FieldCodes x = Words.holding(new int[40]);
         EXPECT.due("correct(1, 0)", () -> x.correct(1, 0), Expect.ILLEGAL_ARGUMENT);
@@ -420,6 +438,27 @@ public final class DocumentTest {
             }
             EXPECT.due("changed(" + places.length + ")", () -> x.changed(places.length), NONE);
         }
+    }
+
+    private static void changedByTheLatest() {
+        EXPECT.sentence("the latest correct() that did not answer NONE or throw (whatever became [..])");
+        FieldCodes x = Words.holding(0, 0, 0, 7, 0, 0);
+        EXPECT.due("correct(4, 2)", () -> x.correct(4, 2), 1);
+        x.spoil(1, 1);
+        EXPECT.due("correct(4, 0) of a spoilt word", () -> x.correct(4, 0), NONE);
+        EXPECT.due("correct(6, 0)", () -> x.correct(6, 0), Expect.ILLEGAL_STATE);
+        EXPECT.due("correct(4, 3)", () -> x.correct(4, 3), Expect.ILLEGAL_ARGUMENT);
+        EXPECT.due("changed(0)", () -> x.changed(0), 3);
+        x.spoil(5, 5);
+        x.spoil(4, 4);
+        EXPECT.due("correct(4, 2) of three", () -> x.correct(4, 2), NONE);
+        EXPECT.due("changed(0) still", () -> x.changed(0), 3);
+        x.wipe();
+        x.put(8, 0L);
+        x.check(3);
+        EXPECT.due("changed(0) with another word", () -> x.changed(0), 3);
+        EXPECT.due("correct(4, 2) of a codeword", () -> x.correct(4, 2), 0);
+        EXPECT.due("changed(0) by that", () -> x.changed(0), NONE);
     }
 
     private static void word15() {
